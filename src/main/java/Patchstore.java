@@ -14,7 +14,7 @@ public final class Patchstore {
     private static final int MAX_CHANGES = 24;
     private static final int MAX_TAGS = 4;
 
-    // No change has more: the lines it puts in and those it has an edit of are all unlike.
+    // No change has more: each of its edits is of a line of its own, but for a lone TELL or NAME.
     private static final int MAX_EDITS = 60;
     // 60 edits of a sign, two figures and a blank.
     private static final int MAX_SIGNS = 240;
@@ -805,8 +805,9 @@ public final class Patchstore {
                 changes.addOut(view.lineAt(i));
                 i++;
             } else if (j < draft.size()) {
-                int down = view.lineAt(script.nextStay(i, j));
-                up = lines.add(part, draft.wordAt(j), up, down, NONE, change);
+                // A word comes in ahead of a line only if LONGEST needs that line, so it is the next that stays.
+                int nextStay = view.lineAt(i);
+                up = lines.add(part, draft.wordAt(j), up, nextStay, NONE, change);
                 changes.addIn(up);
                 j++;
             }
@@ -1088,7 +1089,7 @@ public final class Patchstore {
             return line >= 0 && line < MAX_LINES ? outs[line] : 0;
         }
 
-        /** Begins a CHANGE; what is added from then on are its EDITS. */
+        /** What is added from then on are the EDITS of this CHANGE. */
         int open(int part) {
             if (count >= MAX_CHANGES || part < 0 || part >= PARTS) {
                 return NONE;
@@ -1175,7 +1176,7 @@ public final class Patchstore {
             }
         }
 
-        /** What ofChange() tells. */
+        /** Numbered as in ofChange(). */
         int fact(int change, int what) {
             if (!isChange(change)) {
                 return NONE;
@@ -1528,23 +1529,6 @@ public final class Patchstore {
         boolean isOut(int i, int j) {
             return i < rowSize && (j >= draftSize || longestAt(i + 1, j) >= longestAt(i, j + 1));
         }
-
-        /** The place of the next LINE of the ROW that stays, from a step on. */
-        int nextStay(int i, int j) {
-            int row = i;
-            int word = j;
-            for (int step = 0; step < MAX_LINES + MAX_WORDS; step++) {
-                if (isStay(row, word)) {
-                    return row;
-                }
-                if (isOut(row, word)) {
-                    row++;
-                } else {
-                    word++;
-                }
-            }
-            return NONE;
-        }
     }
 
     /** How one PART is shown with a set of CHANGES. */
@@ -1614,7 +1598,7 @@ public final class Patchstore {
             return one >= 0 && one < MAX_LINES && has(below[one] & ~above[one], other);
         }
 
-        /** What ofPart() tells. */
+        /** Numbered as in ofPart(). */
         int count(int what) {
             switch (what) {
                 case 0:
@@ -1650,7 +1634,7 @@ public final class Patchstore {
             return found / 2;
         }
 
-        /** What at() tells. */
+        /** Numbered as in at(). */
         int placeFact(int place, int what) {
             if (place < 0 || place >= size) {
                 return NONE;
@@ -1679,7 +1663,7 @@ public final class Patchstore {
             return sides;
         }
 
-        /** Finds all anew, if the set is another one than before in what is of this PART. */
+        /** A set always shows the same, as no CHANGE is ever altered: only another one is worth the work. */
         void showSet(int set) {
             int own = set & changes.setOfPart(part);
             if (own == seen) {
@@ -1731,7 +1715,7 @@ public final class Patchstore {
             }
         }
 
-        /** All of the rest that no way leads apart from a LINE of which none of the rest is ahead. */
+        /** Starts at a LINE with none of the rest ahead: such a one is never of a later KNOT. */
         private long firstKnot(long rest) {
             long knot = 0;
             for (int line = 0; line < MAX_LINES && knot == 0; line++) {
