@@ -76,7 +76,8 @@ public final class ModelTest {
         int parts = 1 + drawn(2);
         int drafting = 1 + drawn(6);
         int moving = 1 + drawn(4);
-        int calls = 40 + drawn(470);
+        // With a digest at each sixteenth, these are 512 at most.
+        int calls = 40 + drawn(441);
         for (int call = 0; call < calls; call++) {
             int kind = drawn(drafting + moving + 4);
             String[] row = kind < drafting ? DRAFTING : kind < drafting + moving ? MOVING

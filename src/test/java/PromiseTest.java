@@ -1,166 +1,5 @@
-import java.util.Objects;
-
 /** Each promise of the document by itself; the answers that are due were worked out from its words by hand. */
-public final class PromiseTest {
-    private static final int NONE = -1;
-    private static final int CANT = -9;
-    private static final Class<?> INDEX = IndexOutOfBoundsException.class;
-    private static final Class<?> ARGUMENT = IllegalArgumentException.class;
-    private static final Class<?> STATE = IllegalStateException.class;
-
-    private static int promise;
-    private static int wrong;
-
-    private interface Call {
-        Object answer();
-    }
-
-    private static void due(Object want, Object got) {
-        if (!Objects.equals(want, got)) {
-            wrong++;
-            StackTraceElement line = new Throwable().getStackTrace()[1];
-            System.out.println("promise " + promise + ", line " + line.getLineNumber() + ": answered " + got
-                + ", due is " + want);
-        }
-    }
-
-    /** A call that throws must change nothing, too. */
-    private static void thrown(Patchstore x, Class<?> want, Call call) {
-        long before = x.digest();
-        String draft = x.draft();
-        Object got;
-        try {
-            got = call.answer();
-        } catch (RuntimeException e) {
-            got = e.getClass();
-        }
-        if (!want.equals(got) || before != x.digest() || !draft.equals(x.draft())) {
-            wrong++;
-            StackTraceElement line = new Throwable().getStackTrace()[1];
-            System.out.println("promise " + promise + ", line " + line.getLineNumber() + ": answered " + got
-                + ", due is " + want + (before != x.digest() ? "; it changed something" : ""));
-        }
-    }
-
-    /** A call that can't be done must change nothing. */
-    private static void cant(Patchstore x, Call call) {
-        long before = x.digest();
-        String draft = x.draft();
-        Object got = call.answer();
-        if (!Integer.valueOf(CANT).equals(got) || before != x.digest() || !draft.equals(x.draft())) {
-            wrong++;
-            StackTraceElement line = new Throwable().getStackTrace()[1];
-            System.out.println("promise " + promise + ", line " + line.getLineNumber() + ": answered " + got
-                + ", due is " + CANT + (before != x.digest() ? "; it changed something" : ""));
-        }
-    }
-
-    private static Patchstore fresh() {
-        return new Patchstore();
-    }
-
-    private static void write(Patchstore x, String words) {
-        while (x.house(4) > 0) {
-            x.erase(0);
-        }
-        for (int k = 0; k < words.length(); k++) {
-            x.type(k, words.charAt(k) - 'a');
-        }
-    }
-
-    private static int record(Patchstore x, int store, int part, String words) {
-        write(x, words);
-        return x.record(store, part);
-    }
-
-    /** a|<x=y|z=w>|c in part 0 of store 0: changes 0 a c, 1 x, 2 y z, 3 w; lines a0 c1 x2 y3 z4 w5. */
-    private static Patchstore threeSides() {
-        Patchstore x = fresh();
-        record(x, 0, 0, "ac");
-        x.pull(1, 0);
-        x.pull(2, 0);
-        record(x, 0, 0, "axc");
-        record(x, 1, 0, "ayzc");
-        record(x, 2, 0, "awc");
-        x.pull(0, 1);
-        x.pull(0, 2);
-        return x;
-    }
-
-    /** Lines a0 b1 (change 0) and c2 (change 1, of store 1) stand in a ring of tells; c is killed: <a|b>. */
-    private static Patchstore ring() {
-        Patchstore x = fresh();
-        record(x, 0, 0, "ab");
-        record(x, 1, 0, "c");
-        x.pull(0, 1);
-        x.pull(1, 0);
-        x.tell(0, 1, 2);
-        x.tell(1, 2, 0);
-        x.pull(0, 1);
-        return x;
-    }
-
-    /** 24 changes; part 0 of store 0 shows what it showed, part 1 has the name e or f. */
-    private static void fillChanges(Patchstore x) {
-        for (int k = 0; x.house(1) < 24; k++) {
-            x.name(0, 1, 4 + k % 2);
-        }
-    }
-
-    /** Sixty lines, ten of them live (f ten times), in part 0 of store 0, by six changes. */
-    private static Patchstore sixtyLines() {
-        Patchstore x = fresh();
-        for (int k = 0; k < 6; k++) {
-            record(x, 0, 0, "aaaaaaaaaa".replace('a', (char) ('a' + k)));
-        }
-        return x;
-    }
-
-    /** Eleven lines in part 0 of store 0 without a clash: the kill of the first one is taken out again. */
-    private static Patchstore elevenLines() {
-        Patchstore x = fresh();
-        record(x, 0, 0, "abcdefghij");
-        x.kill(0, 0);
-        record(x, 0, 0, "bcdefghijk");
-        x.take(0, 1);
-        return x;
-    }
-
-    /** Changes 0 (part 0: a), 1 (part 1: b) and 2 (part 0: c) in store 0, of which none hangs on another. */
-    private static Patchstore threeFree() {
-        Patchstore x = fresh();
-        record(x, 0, 0, "a");
-        record(x, 0, 1, "b");
-        record(x, 1, 0, "c");
-        x.pull(0, 1);
-        return x;
-    }
-
-    /** Changes 0 (a), 1 (ab) and 2 (cab) in store 0; 1 and 2 hang on 0. */
-    private static Patchstore chain() {
-        Patchstore x = fresh();
-        record(x, 0, 0, "a");
-        record(x, 0, 0, "ab");
-        record(x, 0, 0, "cab");
-        return x;
-    }
-
-    /** Sixty live lines, a to j six times, in part 0 of store 0, without a clash. */
-    private static Patchstore sixtyRow() {
-        Patchstore x = fresh();
-        for (int k = 0; k < 6; k++) {
-            record(x, 0, 0, "");
-            record(x, 0, 0, "abcdefghij");
-        }
-        for (int change = 1; change < 11; change += 2) {
-            x.take(0, change);
-        }
-        for (int k = 1; k < 6; k++) {
-            x.tell(0, 10 * k - 1, 10 * k);
-        }
-        return x;
-    }
-
+public final class PromiseTest extends Bench {
     private static void promise1() {
         Patchstore x = fresh();
         for (int what = 0; what <= 4; what++) {
@@ -1410,82 +1249,26 @@ public final class PromiseTest {
     }
 
     private static void promise49() {
-        Patchstore[] some = {fresh(), threeSides(), ring(), chain(), threeFree(), sixtyLines(), elevenLines()};
-        for (Patchstore x : some) {
-            due(digestOfFace(x), x.digest());
+        Asked.Maker[] makers = {Bench::fresh, Bench::threeSides, Bench::ring, Bench::chain, Bench::threeFree,
+            Bench::sixtyLines, Bench::elevenLines};
+        for (Asked.Maker maker : makers) {
+            due(new Asked(maker).digest(), maker.make().digest());
+            Patchstore x = maker.make();
             long before = x.digest();
             x.knock();
             due(true, before != x.digest());
-            x.tag(0);
-            x.walk(0);
-            x.forth();
-            x.name(0, 1, 9);
-            due(digestOfFace(x), x.digest());
+            Asked.Maker more = () -> walkedAndNamed(maker.make());
+            due(new Asked(more).digest(), more.make().digest());
         }
         due(-1499049334518971753L, fresh().digest());
     }
 
-    private static long sum;
-
-    private static void mix(long value) {
-        sum = sum * 31 + value;
-    }
-
-    private static long digestOfFace(Patchstore x) {
-        sum = 5902;
-        for (int what = 0; what <= 4; what++) {
-            mix(x.house(what));
-        }
-        for (int what = 0; what <= 2; what++) {
-            mix(x.walked(what));
-        }
-        for (int line = 0; line < x.house(0); line++) {
-            for (int what = 0; what <= 6; what++) {
-                mix(x.ofLine(line, what));
-            }
-        }
-        for (int change = 0; change < x.house(1); change++) {
-            for (int what = 0; what <= 9; what++) {
-                mix(x.ofChange(change, what));
-            }
-            mix(x.edits(change).length());
-        }
-        for (int store = 0; store <= 2; store++) {
-            mixStore(x, store);
-        }
-        for (int tag = 0; tag < x.house(2); tag++) {
-            mix(x.tagged(tag, false));
-            mix(x.tagged(tag, true));
-        }
-        mix(x.isSound() ? 1 : 0);
-        return sum;
-    }
-
-    private static void mixStore(Patchstore x, int store) {
-        for (int what = 0; what <= 4; what++) {
-            mix(x.ofStore(store, what));
-        }
-        for (int place = 0; place < x.ofStore(store, 0); place++) {
-            mix(x.ordered(store, place));
-        }
-        for (int part = 0; part <= 1; part++) {
-            for (int what = 0; what <= 5; what++) {
-                mix(x.ofPart(store, part, what));
-            }
-            mix(x.shown(store, part).length());
-            for (int place = 0; place < x.ofPart(store, part, 0); place++) {
-                mix(x.at(store, part, place, 0));
-                mix(x.at(store, part, place, 3));
-                mix(x.at(store, part, place, 4));
-            }
-            mix(x.nameOf(store, part));
-        }
-        for (int other = 0; other <= 2; other++) {
-            mix(x.lacks(store, other));
-        }
-        for (int change = 0; change < x.house(1); change++) {
-            mix(x.wouldClash(store, change));
-        }
+    private static Patchstore walkedAndNamed(Patchstore x) {
+        x.name(0, 1, 9);
+        x.tag(0);
+        x.walk(0);
+        x.forth();
+        return x;
     }
 
     private static final Runnable[] PROMISES = {
@@ -1505,11 +1288,11 @@ public final class PromiseTest {
     };
 
     public static void main(String[] args) {
-        for (Runnable test : PROMISES) {
-            promise++;
-            test.run();
+        for (int k = 0; k < PROMISES.length; k++) {
+            at = "promise " + (k + 1);
+            PROMISES[k].run();
         }
-        if (wrong > 0 || promise != 49) {
+        if (wrong > 0 || PROMISES.length != 49) {
             System.out.println("PromiseTest: " + wrong + " answers are not as due");
             System.exit(1);
         }

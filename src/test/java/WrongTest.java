@@ -8,7 +8,8 @@ import java.util.Arrays;
  */
 public final class WrongTest {
     // s store, p part, l line, c change, t tag, r place of the row, e end of a block, o place of the order, d place of
-    // the draft, q place that a word gets: Index. w word, n number from 0, m place among others, 2 to 9 a what: Argument.
+    // the draft, q place that a word gets: Index. w word, n number from 0, m place among others, 2 to 9 a what:
+    // Argument.
     private static final String[] CALLS = {
         "type qw", "erase d", "load sp", "record sp", "kill sl", "revive sl", "tell sll", "name spw", "settle spnn",
         "move sprem", "put sc", "take sc", "putAll sc", "takeAll sc", "swap so", "pull ss", "tag s", "asTagged st",
