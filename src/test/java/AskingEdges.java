@@ -491,17 +491,26 @@ final class AskingEdges extends Edges {
         edge("\"-\" and it for OUT", () -> {
             Patchstore x = straight();
             due("-2", x.edits(x.kill(0, 2)));
+            Patchstore all = plain(60);
+            due("-59", all.edits(all.kill(2, 59)));
+            due("-19", all.edits(all.kill(0, 19)));
         });
         edge("\"^\" and it for BACK", () -> {
             Patchstore x = straight();
             x.kill(0, 2);
             due("^2", x.edits(x.revive(0, 2)));
+            Patchstore all = plain(60);
+            all.kill(2, 50);
+            due("^50", all.edits(all.revive(2, 50)));
         });
         edge("the one, \">\" and the other for TELL", () -> {
             Patchstore x = threeFree();
             due("2>0", x.edits(x.tell(0, 2, 0)));
             Patchstore other = threeFree();
             due("0>2", other.edits(other.tell(0, 0, 2)));
+            Patchstore all = plain(60);
+            all.pull(1, 2);
+            due("49>28", all.edits(all.tell(1, 49, 28)));
         });
         edge("\"=\" and the letter for NAME (\"-3 +7 +8\", \"4>2\")", () -> {
             Patchstore x = fresh();
@@ -920,7 +929,14 @@ final class AskingEdges extends Edges {
 
     private static final Asked.Maker[] MAKERS = {Bench::fresh, Bench::sixtyRow, () -> told(threeSides()),
         () -> told(ring()), () -> told(chain()), () -> told(fourUnsure()), () -> told(plain(60)),
-        () -> told(sixtyLines())};
+        () -> told(sixtyLines()), () -> told(moved())};
+
+    /** Two lines of store 0 that were moved: who put them in is another one than who wrote them. */
+    private static Patchstore moved() {
+        Patchstore x = straight();
+        x.move(0, 0, 0, 2, 1);
+        return x;
+    }
 
     /** A name, a tag, a knock and a walk come to it. */
     private static Patchstore told(Patchstore x) {

@@ -78,6 +78,24 @@ final class RecordingEdges extends Edges {
             due(7, record(x, 0, 0, "cdefghijk"));
         });
         edge(words, () -> {
+            Patchstore x = plain(59);
+            due(6, record(x, 0, 0, "abcdefghik"));
+            due("-9 +59", x.edits(6));
+            Patchstore last = plain(59);
+            due(6, record(last, 0, 0, "kabcdefghi"));
+            due("+59 -9", last.edits(6));
+        });
+        edge(words, () -> {
+            Patchstore x = plain(60);
+            x.pull(0, 1);
+            due(6, x.settle(0, 0, 0, 1));
+            due(7, x.revive(0, 0));
+            due(8, x.kill(0, 20));
+            due(9, x.tell(0, 0, 21));
+            due(10, x.name(0, 0, 5));
+            due(60, x.house(0));
+        });
+        edge(words, () -> {
             Patchstore x = plain(58);
             thrown(x, STATE, () -> x.move(0, 0, 0, 3, 1));
             due(6, x.move(0, 0, 0, 2, 1));

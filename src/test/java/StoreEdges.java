@@ -109,6 +109,15 @@ final class StoreEdges extends Edges {
             looks(x, 0, 0, 2);
             looks(x, 1, 2, 3);
         });
+        edge("if the set is that of the first k CHANGES of the ORDER alone", () -> {
+            Patchstore x = threeFree();
+            x.swap(0, 0);
+            x.swap(0, 1);
+            order(x, 0, 1, 2, 0);
+            looks(x, 0, 0, 3);
+            looks(x, 2, 2, 3);
+            looks(x, 1, 1, 2);
+        });
         edge("At first one LOOKS at all (that is one LOOK, too); if it is not there, nothing is found.", () -> {
             looks(fresh(), 0, NONE, 1);
             looks(straight(), 25, NONE, 1);
@@ -417,6 +426,15 @@ final class StoreEdges extends Edges {
             due(4, x.putAll(1, 3));
             order(x, 1, 0, 1, 2, 3);
             due("a|x|b|c|y", x.shown(1, 0));
+        });
+        edge("by rising numbers, and then the CHANGE", () -> {
+            Patchstore x = threeFree();
+            x.swap(0, 1);
+            x.swap(0, 0);
+            x.tell(0, 2, 0);
+            order(x, 0, 2, 0, 1, 3);
+            due(3, x.putAll(2, 3));
+            order(x, 2, 0, 2, 3);
         });
         edge("and are not in it", () -> {
             Patchstore x = chain();

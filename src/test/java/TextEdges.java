@@ -436,6 +436,14 @@ final class TextEdges extends Edges {
             due(true, x.isAhead(0, 0, 1));
             due(true, x.isAhead(0, 0, 9));
             due(false, x.isAhead(0, 9, 0));
+            Patchstore back = fresh();
+            record(back, 0, 0, "a");
+            record(back, 0, 0, "ba");
+            record(back, 0, 0, "cba");
+            record(back, 0, 0, "dcba");
+            due(true, back.isAhead(0, 3, 0));
+            due(true, back.isAhead(0, 2, 0));
+            due(false, back.isAhead(0, 0, 3));
         });
         edge("(over DEAD ones, too)", () -> {
             Patchstore x = fresh();
