@@ -675,6 +675,17 @@ final class AskingEdges extends Edges {
             due(8, x.ofStore(1, 1));
             due(0, x.ofStore(2, 1));
         });
+        edge("all that it HANGS on were in the STORE", () -> {
+            Patchstore x = fresh();
+            record(x, 0, 0, "a");
+            x.pull(1, 0);
+            record(x, 0, 0, "b");
+            record(x, 0, 0, "bc");
+            record(x, 0, 0, "bcd");
+            due(4, x.ofChange(3, 7));
+            due(7, x.ofChange(3, 8));
+            due(0, x.wouldClash(1, 3));
+        });
         edge("and all that it HANGS on", () -> {
             Patchstore x = threeSides();
             x.pull(1, 0);

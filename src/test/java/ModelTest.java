@@ -183,6 +183,11 @@ public final class ModelTest {
                 fitLines(store, values);
                 fitUnsure(store, values);
                 break;
+            case "isAhead":
+                if (drawn(2) == 0) {
+                    fitUnsure(store, values);
+                }
+                break;
             case "revive":
                 fitDead(store, values);
                 break;

@@ -436,6 +436,12 @@ final class StoreEdges extends Edges {
             due(3, x.putAll(2, 3));
             order(x, 2, 0, 2, 3);
         });
+        edge("all that a CHANGE HANGS on", () -> {
+            Patchstore x = straight();
+            due(2, x.ofChange(2, 7));
+            due(3, x.putAll(1, 2));
+            order(x, 1, 0, 1, 2);
+        });
         edge("and are not in it", () -> {
             Patchstore x = chain();
             record(x, 0, 0, "caxb");

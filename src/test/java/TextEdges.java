@@ -289,6 +289,25 @@ final class TextEdges extends Edges {
             told.tell(0, 0, 2);
             due(1 + 4, told.ofChange(3, 7));
         });
+        edge("that put in the UP or DOWN of a LINE that it puts in", () -> {
+            Patchstore x = chain();
+            x.kill(0, 0);
+            x.revive(0, 0);
+            x.name(0, 0, 9);
+            due(6, record(x, 0, 0, "cazb"));
+            due(1 + 2, x.ofChange(6, 7));
+            due(1 + 2, x.ofChange(6, 8));
+        });
+        edge("or a LINE of which it has an OUT, BACK or TELL", () -> {
+            Patchstore x = straight();
+            x.move(0, 0, 0, 1, 1);
+            due("-0 +3", x.edits(3));
+            due(1 + 2 + 4, x.ofChange(3, 7));
+            x.move(0, 0, 1, 2, 0);
+            due("-3 +4", x.edits(4));
+            due(2 + 8, x.ofChange(4, 7));
+            due(1 + 2 + 4 + 8, x.ofChange(4, 8));
+        });
         edge("and on each of which it ENDS an OUT, or that it FOLLOWS", () -> {
             Patchstore x = twoOuts();
             x.revive(0, 0);
@@ -459,6 +478,16 @@ final class TextEdges extends Edges {
             due(false, x.isAhead(0, 1, 1));
             due(false, ring().isAhead(0, 1, 1));
         });
+        edge("for each TELL of a CHANGE of the set from the one to the other", () -> {
+            Patchstore x = ring();
+            due("<a|b=c>", x.shown(0, 0));
+            due(4, x.tell(0, 1, 0));
+            due("1>0", x.edits(4));
+            due(1, x.ofChange(4, 8));
+            x.putAll(2, 4);
+            due("<a|b>", x.shown(2, 0));
+            due(1, x.sides(2, 0, 0));
+        });
         edge("if there is a WAY from it to that, and none from that to it", () -> {
             Patchstore x = ring();
             for (int line = 0; line < 3; line++) {
@@ -523,6 +552,18 @@ final class TextEdges extends Edges {
             due("x", x.side(2, 0, 0, 0));
             due("y|z", x.side(2, 0, 0, 1));
             due("w", x.side(2, 0, 0, 2));
+        });
+        edge("its LINES that were put in by the same CHANGE are one", () -> {
+            Patchstore x = fresh();
+            record(x, 0, 0, "ab");
+            x.pull(1, 0);
+            x.move(0, 0, 0, 1, 1);
+            x.move(1, 0, 0, 1, 1);
+            x.pull(0, 1);
+            due("b|<a=a>", x.shown(0, 0));
+            due(2, x.sides(0, 0, 0));
+            due("b0 a0 a0", x.blame(0, 0));
+            due("-2", x.edits(x.settle(0, 0, 0, 1)));
         });
         edge("in a SIDE LINES stand by rising numbers", () -> {
             Patchstore x = fresh();
